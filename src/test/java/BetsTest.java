@@ -187,6 +187,8 @@ public final class BetsTest {
     Due.course(x, "0123456789ab0123456789ab");
     Due.skies(x, "nnnnnnnnnnnn");
     x.settle();
+    x.bet(8, 77);
+    x.bet(7, 78);
     x.lots(9);
     Due.is("43 restore", x.restore(), 1);
     Due.same("43 as it was", Due.state(x), then);
@@ -206,11 +208,16 @@ public final class BetsTest {
   static void imageOfRepairs() {
     LameClocks x = new LameClocks();
     Due.street(x, "p0");
+    x.clock(0, 9, 0, 0);
+    x.paint(3, 3);
     x.tune(0, 5);
     x.turn(0, 7);
     x.image();
     x.restart();
     Due.is("43 none known", x.undo(), -4);
+    x.breathe(3);
+    x.turn(1, 9);
+    x.wind(1, 9);
     x.restore();
     Due.is("43 two known", x.undo(), 1);
     Due.is("43 undone", x.told(0, 1), 0);

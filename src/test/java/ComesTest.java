@@ -193,6 +193,9 @@ public final class ComesTest {
     Due.is("30 behind 1", x.both(0, 1, 1, 1), 3);
     Due.is("30 second", x.both(0, 2, 8, 0), 0);
     Due.is("30 second", x.both(0, 2, 8, 1), 0);
+    LameClocks eleven = withMayor("-bbbbbbb", "o0*99");
+    Due.is("30 eleven hours", eleven.both(0, 1, 5, 0), 11);
+    Due.is("30 eleven hours", eleven.both(0, 1, 5, 1), 11);
     LameClocks y = withMayor("-3a5678", "o0");
     Due.is("30 none", y.both(0, 1, 8, 0), -4);
     Due.is("30 none", y.both(0, 1, 8, 1), -4);
@@ -251,6 +254,8 @@ public final class ComesTest {
     Due.is("32 it is none already", x.breath(0, 9), -4);
     for (int b : BAD_CLOCKS) Due.is("32 bad", x.breath(b, 0), -1);
     for (int b : BAD_SPANS) Due.is("32 bad", x.breath(0, b), -1);
+    Due.course(x, "-1234567890ab1234567890a");
+    Due.is("32 of 24 windows", x.breath(0, 200), 1);
     LameClocks like = new LameClocks();
     Due.street(like, "o60,p0*9");
     Due.course(like, "-1-");
@@ -290,6 +295,12 @@ public final class ComesTest {
     x.hour();
     Due.is("34 from now on", x.appeal(0, 5), 2);
     Due.is("34 both home", x.appeal(0, 200), 2);
+    LameClocks done = new LameClocks();
+    Due.street(done, "p0,c0,p0");
+    Due.skies(done, "r");
+    for (int h = 0; h < 9; h++) done.hour();
+    int[] places = {2, 1, 2};
+    for (int c = 0; c < 3; c++) Due.is("24 the finish of who is home counts", done.behind(c, 0, 1), places[c]);
     for (int b : BAD_CLOCKS) Due.is("34 bad", x.appeal(b, 0), -1);
     for (int b : BAD_SPANS) Due.is("34 bad", x.appeal(0, b), -1);
   }

@@ -280,6 +280,18 @@ public final class HoursTest {
     Due.is("22 none", x.undo(), -4);
     Due.is("22 the oldest are lost", x.told(1, 1), 1);
     Due.is("22 the oldest are lost", x.told(0, 1), 2);
+    LameClocks y = new LameClocks();
+    Due.street(y, "p0,p0,p0");
+    y.paint(5, 5);
+    y.tune(2, 1);
+    y.breathe(5);
+    for (int i = 1; i <= 9; i++) y.wind(i % 2, i);
+    y.turn(2, 7);
+    for (int i = 9; i >= 0; i--) Due.is("22 undo", y.undo(), i);
+    Due.is("22 hands undone", y.told(2, 1), 0);
+    Due.is("22 springs undone", y.told(0, 2) + y.told(1, 2), 0);
+    Due.is("22 the second is lost", y.dial(5), 12);
+    Due.is("22 the first is lost", y.rate(2), 1);
   }
 
   static void restart() {

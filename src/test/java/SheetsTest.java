@@ -187,6 +187,10 @@ public final class SheetsTest {
     x.sheet(0, 1, 3);
     Due.is("48 a new row", x.dress(0, 1, 2, 1), 1);
     Due.is("48 of 0", x.dial(0), 0);
+    x.item(0, 1, 0, 7);
+    x.sheet(0, 1, 3);
+    Due.is("47 a new row", x.dress(0, 1, 0, 1), 1);
+    Due.is("47 of 0", x.dial(0), 0);
   }
 
   static void item() {

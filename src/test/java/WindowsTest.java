@@ -174,6 +174,9 @@ public final class WindowsTest {
     Due.is("9 the tape is read", x.skies(), -20);
     Due.is("9 and empty then", x.type(115), 1);
     Due.is("9 skies", x.skies(), 1);
+    for (int i = 1; i <= 160; i++) x.type(i == 1 ? 'r' : ' ');
+    Due.is("9 a full tape is read to its end", x.skies(), 1);
+    Due.is("9 the sky", x.weather(5), 1);
   }
 
   static void course() {
@@ -210,6 +213,8 @@ public final class WindowsTest {
     x.tune(0, 3);
     Due.is("10 home", x.count(3), 2);
     Due.skies(x, "rr");
+    Due.is("10 what comes does not matter", x.behind(0, 50, 0), 1);
+    Due.is("10 what comes does not matter", x.right(0, 9), 1);
     Due.is("10 course", Due.course(x, "-0-"), 3);
     Due.is("10 none is home", x.count(3), 0);
     Due.is("10 at window 0", x.told(0, 3), 0);
@@ -351,8 +356,17 @@ public final class WindowsTest {
     for (int i = 0; i < 166; i++) late.lots(60);
     late.lots(37);
     Due.is("13 late", late.count(2), 9997);
+    Due.is("13 window 0", day0(), 1);
     Due.is("13 to the last hour", Due.day(late, "h;h;h;h"), 2);
     Due.is("13 the last", late.count(2), 9999);
+  }
+
+  static int day0() {
+    LameClocks x = new LameClocks();
+    x.paint(0, 4);
+    int done = Due.day(x, "b0");
+    Due.is("13 breathed on window 0", x.dial(0), 12);
+    return done;
   }
 
   static void count() {
