@@ -9,7 +9,7 @@ public final class LameClocks {
 
     private static final int MOST_WINDOWS = 24, LEAST_WINDOWS = 2, FIRST_WINDOWS = 8, NO_DIAL = 12;
     private static final int MOST_CLOCKS = 9, MOST_RATE = 30, MOST_SPRING = 99, DIAL_MINUTES = 720, HOUR_MINUTES = 60;
-    private static final int DIAL_HOURS = 12, MAYOR_HOURS = 6, MOST_SKIES = 12, LAST_HOUR = 9999, FAR = 200;
+    private static final int DIAL_HOURS = 12, MAYOR_HOURS = 6, LEAST_SKIES = 1, MOST_SKIES = 12, LAST_HOUR = 9999, FAR = 200;
     private static final int MOST_TURNS = 40, MOST_STROKES = 108, MOST_LOTS = 60;
     private static final int MOST_BETS = 6, MOST_STAKE = 999, MOST_REPAIRS = 10;
     private static final int TAPE_LETTERS = 160, MOST_ACTS = 80, FIRST_FAULT = -20, END = -1, HUGE = 100000;
@@ -90,9 +90,10 @@ public final class LameClocks {
 
     public int course() {
         trial.become(now.race);
-        int answer = tape.readCourse(trial);
+        int answer = tape.readSigns("0123456789ab-", LEAST_WINDOWS, MOST_WINDOWS, trial.dials);
         tape.size = 0;
         if (answer < 0) return answer;
+        trial.windows = answer;
         trial.toStart();
         now.race.become(trial);
         now.repairs.known = 0;
@@ -101,9 +102,11 @@ public final class LameClocks {
 
     public int skies() {
         trial.become(now.race);
-        int answer = tape.readSkies(trial);
+        int answer = tape.readSigns("srwn", LEAST_SKIES, MOST_SKIES, trial.sky);
         tape.size = 0;
-        if (answer >= 0) now.race.become(trial);
+        if (answer < 0) return answer;
+        trial.skies = answer;
+        now.race.become(trial);
         return answer;
     }
 
@@ -926,32 +929,17 @@ public final class LameClocks {
         private int passed = 0;
         private int fault = 0;
 
-        int readCourse(Race into) {
+        /** From least to most of these signs, each told by its place among them. */
+        int readSigns(String signs, int least, int most, int[] into) {
             rewind();
             int n = 0;
-            for (; n < MOST_WINDOWS && next() != END; n++) {
-                int sign = "0123456789ab-".indexOf((char) next());
+            for (; n < most && n < into.length && next() != END; n++) {
+                int sign = signs.indexOf((char) next());
                 if (sign < 0) return here();
-                into.dials[n] = sign;
+                into[n] = sign;
                 skip();
             }
-            if (n < LEAST_WINDOWS || next() != END) return here();
-            into.windows = n;
-            return n;
-        }
-
-        int readSkies(Race into) {
-            rewind();
-            int n = 0;
-            for (; n < MOST_SKIES && next() != END; n++) {
-                int sign = "srwn".indexOf((char) next());
-                if (sign < 0) return here();
-                into.sky[n] = sign;
-                skip();
-            }
-            if (n == 0 || next() != END) return here();
-            into.skies = n;
-            return n;
+            return n < least || next() != END ? here() : n;
         }
 
         int readStreet(Race into) {
