@@ -1,6 +1,14 @@
+import java.lang.reflect.InvocationTargetException;
+import java.lang.reflect.Method;
+import java.lang.reflect.Modifier;
+import java.util.ArrayList;
+import java.util.Comparator;
+import java.util.List;
+
 /** What every test of the project uses: answers that are due, and texts typed onto the tape. */
 final class Due {
   static final int MIN = Integer.MIN_VALUE, MAX = Integer.MAX_VALUE;
+  private static String test = "";
   private static int wrong = 0;
   private static int looked = 0;
 
@@ -10,7 +18,40 @@ final class Due {
     looked++;
     if (got == want) return;
     wrong++;
-    if (wrong <= 50) System.out.println(call + " answered " + got + ", due is " + want);
+    if (wrong <= 50) System.out.println(test + call + " answered " + got + ", due is " + want);
+  }
+
+  /** Each static method that is named by a promise or by a part of "Terms" is a test of its own. */
+  static void runAll(Class<?> tests) {
+    List<Method> found = new ArrayList<>();
+    for (Method m : tests.getDeclaredMethods()) {
+      boolean named = m.getName().startsWith("promise") || m.getName().startsWith("terms");
+      if (named && Modifier.isStatic(m.getModifiers()) && m.getParameterCount() == 0) found.add(m);
+    }
+    found.sort(Comparator.comparing(Method::getName));
+    int failed = 0;
+    for (Method m : found) {
+      int before = wrong;
+      int lookedBefore = looked;
+      run(m);
+      holds("the test looks at something", looked > lookedBefore);
+      if (wrong > before) failed++;
+    }
+    test = "";
+    System.out.println(found.size() + " tests, " + failed + " failed");
+    end();
+  }
+
+  private static void run(Method m) {
+    test = m.getName() + ": ";
+    try {
+      m.setAccessible(true);
+      m.invoke(null);
+    } catch (IllegalAccessException e) {
+      throw new IllegalStateException(e);
+    } catch (InvocationTargetException e) {
+      holds("nothing is thrown, but " + e.getCause(), false);
+    }
   }
 
   static void type(LameClocks x, String text) {
@@ -56,14 +97,14 @@ final class Due {
     looked++;
     if (got.equals(want)) return;
     wrong++;
-    System.out.println(what + ": the state is\n" + got + "\nand should be\n" + want);
+    System.out.println(test + what + ": the state is\n" + got + "\nand should be\n" + want);
   }
 
   static void holds(String what, boolean so) {
     looked++;
     if (so) return;
     wrong++;
-    System.out.println("does not hold: " + what);
+    System.out.println(test + "does not hold: " + what);
   }
 
   static void end() {
