@@ -198,7 +198,8 @@ public final class BetsEdgesTest {
         x -> x.lots(5), x -> x.seed(77), x -> x.restart(), x -> x.undo(), x -> x.wind(0, 9), x -> x.turn(1, 9),
         x -> x.tune(2, 9), x -> x.breathe(1), x -> x.clock(5, 1, 1, 1), x -> Due.course(x, "01"),
         x -> Due.course(x, "4".repeat(24)), x -> Due.street(x, "o0"), x -> Due.street(x, "o0,d9,t8,m7,p6"),
-        x -> Due.skies(x, "n"), x -> Due.skies(x, "nwrsnwrsnwrs"), x -> Due.day(x, "h;w0+9;h")};
+        x -> Due.skies(x, "n"), x -> Due.skies(x, "nwrsnwrsnwrs"), x -> Due.day(x, "h;w0+9;h"),
+        BetsEdgesTest::otherBets, BetsEdgesTest::otherRepairs};
     for (int i = 0; i < later.length; i++) {
       Twins.Setup act = later[i];
       Twins.alike("behind act " + i, x -> {
@@ -210,6 +211,22 @@ public final class BetsEdgesTest {
         Twins.UNDER_WAY.to(x);
         x.image();
       });
+    }
+  }
+
+  private static void otherBets(LameClocks x) {
+    x.settle();
+    for (int b = 0; b < 6; b++) x.bet(1, 300 + b);
+  }
+
+  private static void otherRepairs(LameClocks x) {
+    for (int i = 0; i < 9; i++) x.undo();
+    for (int i = 0; i < 3; i++) {
+      x.paint(6, 2);
+      x.breathe(6);
+      x.turn(i, 77);
+      x.wind(i, 7);
+      x.tune(i, 17);
     }
   }
 

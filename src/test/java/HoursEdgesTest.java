@@ -104,6 +104,14 @@ public final class HoursEdgesTest {
     Due.is("the ninth", x.tune(8, 2), -3);
   }
 
+  static void promise20ARateThatIsTheSameIsARepair() {
+    LameClocks x = street("p0+5");
+    Due.is("tune", x.tune(0, 5), 5);
+    Due.is("repairs", x.count(6), 1);
+    Due.is("undo", x.undo(), 0);
+    Due.is("rate", x.rate(0), 5);
+  }
+
   // ---- 21
 
   static void promise21NoSuchWindow() {

@@ -94,6 +94,7 @@ public final class SheetsEdgesTest {
     refused("bad ahead of cast", -1, x -> x.dress(0, 1, 0, 9));
     refused("bad ahead of index", -1, x -> x.dress(0, 0, 9, 0));
     refused("null ahead of index", -11, x -> x.dress(2, 0, -1, 1));
+    refused("null ahead of cast", -11, x -> x.dress(2, 3, 0, 1));
     refused("cast ahead of index", -12, x -> x.dress(0, 1, -1, 1));
     LameClocks x = with(0, 13, 13);
     Due.is("index ahead of not", x.dress(0, 0, 0, 3), -13);
@@ -126,6 +127,7 @@ public final class SheetsEdgesTest {
   static void promise45InTheirOrder() {
     refused("bad ahead of null", -1, x -> x.film(2, 4, 0));
     refused("null", -11, x -> x.film(2, 0, -1));
+    refused("null", -11, x -> x.film(2, 3, -1));
     refused("cast", -12, x -> x.film(0, 1, -1));
     refused("cast", -12, x -> x.film(3, 0, 0));
   }
@@ -176,6 +178,7 @@ public final class SheetsEdgesTest {
   static void promise46InTheirOrder() {
     refused("bad ahead of null", -1, x -> x.seen(2, 4, 0));
     refused("null", -11, x -> x.seen(2, 0, -1));
+    refused("null", -11, x -> x.seen(2, 3, -1));
     refused("cast", -12, x -> x.seen(0, 1, -1));
   }
 
@@ -311,7 +314,10 @@ public final class SheetsEdgesTest {
 
   static void promise49InTheirOrder() {
     refused("bad ahead of null", -1, x -> x.item(2, 4, -1, 1));
-    refused("null", -11, x -> x.item(2, 0, -1, 1));
+    for (int lane = 0; lane < 4; lane++) {
+      int any = lane;
+      refused("null", -11, x -> x.item(2, any, -1, 1));
+    }
     for (int lane = 1; lane < 4; lane++) {
       int other = lane;
       refused("cast", -12, x -> x.item(0, other, -1, 1));
@@ -384,6 +390,8 @@ public final class SheetsEdgesTest {
     refused("bad ahead of null", -1, x -> x.copy(2, 0, 4, 0, 0));
     refused("bad ahead of null", -1, x -> x.copy(4, 0, 2, 0, 0));
     refused("null ahead of cast, index", -11, x -> x.copy(2, -1, 0, -1, -1));
+    refused("null ahead of cast, index", -11, x -> x.copy(2, -1, 1, -1, -1));
+    refused("null ahead of cast, index", -11, x -> x.copy(1, -1, 2, -1, -1));
     refused("cast ahead of index", -12, x -> x.copy(0, -1, 1, -1, -1));
   }
 

@@ -292,6 +292,13 @@ public final class Terms1Test {
     }
   }
 
+  static void terms1ATwinOfASundialGoesInAnyWeather() {
+    for (int weather = 0; weather < 4; weather++) {
+      LameClocks x = race("-0-", WEATHERS.substring(weather, weather + 1), "d0,t300,t300");
+      Due.is("weather " + weather, x.hour(), weather == 0 ? 3 : 2);
+    }
+  }
+
   static void terms1AMayorGoesInHoursThatCanBeDividedBy6() {
     LameClocks x = race("-5555555", "", "m0");
     int window = 0;

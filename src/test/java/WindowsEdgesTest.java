@@ -135,6 +135,19 @@ public final class WindowsEdgesTest {
     Due.is("a new one", x.bet(0, 9), 2);
     x.clock(0, 0, 0, 0);
     Due.is("none is on the new clock", x.pays(0, 2), 2);
+    LameClocks y = street("p0,p0");
+    y.bet(0, 3);
+    y.bet(1, 4);
+    y.bet(0, 5);
+    y.strike();
+    Due.is("the first stays the first", y.pays(0, 0), 3);
+    Due.is("the third is the second", y.pays(1, 0), 5);
+    LameClocks z = street("p0,p0");
+    z.bet(0, 3);
+    z.bet(0, 4);
+    z.strike();
+    Due.is("none was on it", z.count(5), 2);
+    Due.is("they stay", z.pays(1, 0), 4);
   }
 
   static void promise03ItIsNoneOfWhoWasHeard() {
@@ -148,6 +161,15 @@ public final class WindowsEdgesTest {
     x.strike();
     x.strike();
     Due.is("heard", x.heard(), 1);
+  }
+
+  /** The document takes it from who was HEARD; of strokes it says nothing, so these stay. */
+  static void promise03StrokesOfTheLastHourStay() {
+    LameClocks x = street("o60,o120,o180");
+    x.hour();
+    Due.is("strokes", x.count(4), 6);
+    x.strike();
+    Due.is("strokes", x.count(4), 6);
   }
 
   // ---- 4, 5
@@ -304,6 +326,23 @@ public final class WindowsEdgesTest {
       Due.is("count", x.count(0), many);
       Due.is("home is the last", x.behind(0, 30, 0), many - 1);
     }
+  }
+
+  static void promise10AllElseStays() {
+    LameClocks x = street("c60+3*9,o120");
+    Due.skies(x, "rn");
+    x.bet(1, 7);
+    x.hour();
+    Due.course(x, "-5-");
+    Due.is("clocks", x.count(1), 2);
+    Due.is("bets", x.count(5), 1);
+    Due.is("who was heard", x.heard(), 3);
+    Due.is("strokes", x.count(4), 3);
+    Due.is("hands", x.told(0, 1), 123);
+    Due.is("spring", x.told(0, 2), 8);
+    Due.is("rate", x.rate(0), 3);
+    Due.is("weather", x.weather(0), 1);
+    Due.is("weather", x.weather(1), 3);
   }
 
   static void promise11AFaultAndAllStays() {
