@@ -11,6 +11,7 @@ public final class BetsTest {
     lotsRefused();
     seed();
     image();
+    imageAgain();
     imageOfRepairs();
     imageLeaves();
     Due.end();
@@ -182,7 +183,6 @@ public final class BetsTest {
     int draw = x.seed(9);
     x.seed(draw);
     Due.is("42 image", x.image(), 1);
-    Due.same("42 changes nothing", Due.state(x), then);
     Due.street(x, "o1,o2,o3,o4,o5,o6,o7,o8,o9");
     Due.course(x, "0123456789ab0123456789ab");
     Due.skies(x, "nnnnnnnnnnnn");
@@ -193,10 +193,19 @@ public final class BetsTest {
     Due.is("43 restore", x.restore(), 1);
     Due.same("43 as it was", Due.state(x), then);
     Due.is("43 the draw", x.seed(draw), draw);
+  }
+
+  static void imageAgain() {
+    LameClocks x = new LameClocks();
+    Due.street(x, "p0*50,c700+7*30");
+    x.image();
     x.hour();
     x.strike();
+    Due.is("43 restore", x.restore(), 1);
+    x.strike();
     Due.is("43 once more", x.restore(), 1);
-    Due.same("43 as it was", Due.state(x), then);
+    Due.is("43 as it was", x.count(1), 2);
+    Due.is("43 as it was", x.count(2), 0);
     x.hour();
     String later = Due.state(x);
     Due.is("42 a later one", x.image(), 1);

@@ -160,9 +160,7 @@ public final class HoursTest {
     Due.is("17 hour", x.count(2), 9960);
     for (int h = 9960; h < 9999; h++) Due.is("17 hour", x.hour() >= 0 ? 0 : 1, 0);
     Due.is("17 hour", x.count(2), 9999);
-    String ahead = Due.state(x);
     Due.is("17 full", x.hour(), -3);
-    Due.same("17 full changes nothing", Due.state(x), ahead);
     Due.is("24 what comes goes beyond", x.behind(0, 200, 0), x.told(0, 3));
     x.paint(1, 12);
     Due.is("26 finish beyond", x.finish(0), 9999 + 7);

@@ -13,7 +13,7 @@ import java.util.function.ToIntFunction;
  */
 public final class ModelTest {
   public static void main(String[] args) {
-    for (int seed = 1; seed <= 400; seed++) new Run(seed).play(512);
+    for (int seed = 1; seed <= 900; seed++) new Run(seed).play();
     Due.end();
   }
 
@@ -729,6 +729,7 @@ public final class ModelTest {
     final Random random;
     final int seed;
     final int style;
+    int calls = 0;
 
     Run(int seed) {
       this.seed = seed;
@@ -765,6 +766,7 @@ public final class ModelTest {
     }
 
     void due(String call, int got, int want) {
+      calls++;
       Due.is("run " + seed + " " + call, got, want);
     }
 
@@ -843,8 +845,9 @@ public final class ModelTest {
       }
     }
 
-    void play(int calls) {
-      for (int i = 0; i < calls; i++) {
+    /** An object is good for 512 calls; the longest act is a text of some 150 letters. */
+    void play() {
+      for (int i = 0; i < 512 && calls < 350; i++) {
         int part = random.nextInt(20);
         if (part < 4) change();
         else if (part < 6) text();

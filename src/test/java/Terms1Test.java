@@ -23,9 +23,9 @@ public final class Terms1Test {
     for (int h = 0; h < n; h++) x.hour();
   }
 
-  /** By 60s and what is left: at most 168 calls. */
+  /** From the hour 0 on, by 60s and what is left: at most 167 calls. */
   private static void toHour(LameClocks x, int hour) {
-    while (x.count(2) < hour) x.lots(Math.min(60, hour - x.count(2)));
+    for (int h = 0; h < hour; h += 60) x.lots(Math.min(60, hour - h));
   }
 
   // ---- refusals

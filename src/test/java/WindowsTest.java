@@ -277,13 +277,17 @@ public final class WindowsTest {
     Due.is("12 the ninth", x.told(8, 1), 9);
   }
 
-  static void streetFaults() {
+  private static LameClocks oneUnderWay() {
     LameClocks x = new LameClocks();
     Due.street(x, "p60+1*5");
     x.bet(0, 9);
     x.hour();
     x.tune(0, 4);
-    String ahead = Due.state(x);
+    return x;
+  }
+
+  static void streetFaults() {
+    String ahead = Due.state(oneUnderWay());
     String[] texts = {"", " ", "x", "P0", "p", "p 720", "p0+", "p0-", "p0 + 31", "p0*", "p0*100", "p0,", "p0,,",
         "p0;", "p1 2", "p0+1 2", "p0*1 2", "p0+-1", "p0*5+3", "p0+1+1", "p0*1*1", "p0p0", "p-1", "p0,p1,x",
         "p1,p2,p3,p4,p5,p6,p7,p8,p9,", "p1,p2,p3,p4,p5,p6,p7,p8,p9,p1", "p1,p2,p3,p4,p5,p6,p7,p8,p9;",
@@ -295,10 +299,11 @@ public final class WindowsTest {
         1, 1, 3, 3, 4, 0, 0, 3,
         25};
     for (int i = 0; i < texts.length; i++) {
+      LameClocks x = oneUnderWay();
       Due.is("12 fault of " + texts[i], Due.street(x, texts[i]), -20 - places[i]);
+      Due.same("12 all stays", Due.state(x), ahead);
+      Due.is("12 undo stays", x.undo(), 0);
     }
-    Due.same("12 all stays", Due.state(x), ahead);
-    Due.is("12 undo stays", x.undo(), 0);
   }
 
   static void day() {
