@@ -8,7 +8,7 @@ import java.util.List;
 /** What every test of the project uses: answers that are due, and texts typed onto the tape. */
 final class Due {
   static final int MIN = Integer.MIN_VALUE, MAX = Integer.MAX_VALUE;
-  private static String test = "";
+  private static volatile String test = "";
   private static int wrong = 0;
   private static int looked = 0;
 
@@ -29,6 +29,7 @@ final class Due {
       if (named && Modifier.isStatic(m.getModifiers()) && m.getParameterCount() == 0) found.add(m);
     }
     found.sort(Comparator.comparing(Method::getName));
+    endInTime();
     int failed = 0;
     for (Method m : found) {
       int before = wrong;
@@ -40,6 +41,21 @@ final class Due {
     test = "";
     System.out.println(found.size() + " tests, " + failed + " failed");
     end();
+  }
+
+  /** A call that never ends is a failure, too: whole tests take seconds. */
+  private static void endInTime() {
+    Thread guard = new Thread(() -> {
+      try {
+        Thread.sleep(300_000);
+      } catch (InterruptedException e) {
+        return;
+      }
+      System.out.println(test + "does not end");
+      Runtime.getRuntime().halt(1);
+    });
+    guard.setDaemon(true);
+    guard.start();
   }
 
   private static void run(Method m) {
