@@ -1057,9 +1057,9 @@ public final class LameClocks {
             }
             int first = here();
             int v = 0;
-            while (at < size && isDigit(letters[at])) {
+            for (; at < size && isDigit(letters[at]); at++) {
                 v = Math.min(HUGE, v * 10 + letters[at] - '0');
-                skip();
+                passed++;
             }
             if (v >= least && v <= most) return v;
             fails(first);

@@ -21,11 +21,11 @@ final class Due {
     if (wrong <= 50) System.out.println(test + call + " answered " + got + ", due is " + want);
   }
 
-  /** Each static method that is named by a promise or by a part of "Terms" is a test of its own. */
+  /** Each static method that is named by a promise, by a part of "Terms" or by README.md is a test of its own. */
   static void runAll(Class<?> tests) {
     List<Method> found = new ArrayList<>();
     for (Method m : tests.getDeclaredMethods()) {
-      boolean named = m.getName().startsWith("promise") || m.getName().startsWith("terms");
+      boolean named = m.getName().matches("(promise|terms|readme).*");
       if (named && Modifier.isStatic(m.getModifiers()) && m.getParameterCount() == 0) found.add(m);
     }
     found.sort(Comparator.comparing(Method::getName));

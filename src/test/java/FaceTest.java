@@ -32,6 +32,7 @@ public final class FaceTest {
     constructors();
     insides();
     words();
+    loops();
     Due.end();
   }
 
@@ -92,9 +93,46 @@ public final class FaceTest {
     }
   }
 
-  static void words() throws IOException {
-    String code = Files.readString(SOURCE).replaceAll("(?s)/\\*.*?\\*/", " ").replaceAll("//[^\n]*", " ")
+  /** The class without its comments, texts and signs. */
+  private static String code() throws IOException {
+    return Files.readString(SOURCE).replaceAll("(?s)/\\*.*?\\*/", " ").replaceAll("//[^\n]*", " ")
         .replaceAll("\"(\\\\.|[^\"\\\\])*\"", "\"\"").replaceAll("'(\\\\.|[^'\\\\])'", "' '");
+  }
+
+  /** Rule 9: the counter of each loop moves in the loop's own lines: in the head of a for, behind the head of a while. */
+  static void loops() throws IOException {
+    String code = code();
+    Matcher m = Pattern.compile("\\b(for|while) \\(").matcher(code);
+    int found = 0;
+    while (m.find()) {
+      int head = closing(code, m.end() - 1, '(', ')');
+      String own = code.substring(m.start(), m.group(1).equals("for") ? head : statementEnd(code, head));
+      Due.holds("its counter moves: " + own, own.matches("(?s).*(\\+\\+|--).*"));
+      found++;
+    }
+    Due.holds("there are loops", found > 0);
+    Due.holds("no loop of do", !Pattern.compile("\\bdo\\b").matcher(code).find());
+  }
+
+  private static int statementEnd(String code, int from) {
+    int brace = code.indexOf('{', from);
+    int semicolon = code.indexOf(';', from);
+    return brace >= 0 && brace < semicolon ? closing(code, brace, '{', '}') : semicolon;
+  }
+
+  /** Behind the sign that closes the one at this place. */
+  private static int closing(String code, int at, char opens, char closes) {
+    int depth = 0;
+    for (int i = at; i < code.length(); i++) {
+      if (code.charAt(i) == opens) depth++;
+      if (code.charAt(i) == closes) depth--;
+      if (depth == 0) return i + 1;
+    }
+    return code.length();
+  }
+
+  static void words() throws IOException {
+    String code = code();
     String[] ruledOut = {"throw", "throws", "try", "catch", "finally", "synchronized", "assert", "import", "package",
         "System\\.(?!arraycopy)", "Math\\.\\w+Exact", "->", "::", "double", "float", "Random", "Thread", "hashCode",
         "toString", "protected", "volatile", "native"};
